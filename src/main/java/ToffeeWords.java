@@ -888,7 +888,7 @@ public final class ToffeeWords {
         private void scan() {
             tokens = 0;
             int at = 0;
-            while (at < length) {
+            for (int i = 0; i < BYTES && at < length; i++) {
                 at = bytes[at] == ' ' ? at + 1 : scanToken(at);
             }
             addToken(END, length, 0);
