@@ -1066,7 +1066,7 @@ public final class PromisesTest {
         due("augusts", x.augusts(0, 61), BAD);
         refused(x, 4, 0, 0);
         due("nobody", x.augusts(999999, 60), 0);
-        // Seed 0: 12345 is biter 0, apple 0; then 1406932606: biter 3, apple 4 (21468 by 4, 1341 by 7).
+        // Seed 0: 12345 is biter 0, apple 0; then 1406932606: biter 0, apple 4 (21468 by 4, 1341 by 7).
         x.apple(0, 1, 0);
         x.biter(2, 1);
         due("none yet", x.augusts(0, 0), 0);
