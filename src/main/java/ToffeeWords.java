@@ -57,8 +57,8 @@ public final class ToffeeWords {
             images[i] = new Valley();
         }
         imageIsKept = new boolean[IMAGES];
-        text = new Text();
-        teller = new Teller(text);
+        teller = new Teller();
+        text = teller.text;
         dream = new Moment();
         fewest = new Few();
         table = new Feast();
@@ -969,13 +969,9 @@ public final class ToffeeWords {
 
     /** Tells the ITEMS of THE TEXT into a spare VALLEY, so that a FAULT spoils nothing. */
     private static final class Teller {
-        private final Text text;
+        private final Text text = new Text();
         private final int[] given = new int[3];
         private int at;
-
-        private Teller(Text text) {
-            this.text = text;
-        }
 
         /** How many ITEMS there are, 1 at least; or -10 less the FAULT, the start of the TOKEN that it stays at. */
         private int tell(Valley v) {
@@ -1172,24 +1168,24 @@ public final class ToffeeWords {
         private void lay(Valley v) {
             System.arraycopy(v.today.toffee, 0, on, 0, APPLES);
             most = NONE;
-            seat(v, 0, 0);
+            seat(this, v, 0, 0);
         }
 
         /** A bite that takes nothing off is passed over: the same way without it comes first. */
-        private void seat(Valley v, int b, int sum) {
+        private static void seat(Feast table, Valley v, int b, int sum) {
             if (b >= v.biters || b >= BITERS) {
-                keepIfMore(sum);
+                table.keepIfMore(sum);
                 return;
             }
-            way[b] = NONE;
-            seat(v, b + 1, sum);
+            table.way[b] = NONE;
+            seat(table, v, b + 1, sum);
             for (int p = 0; p < v.apples; p++) {
-                int off = v.comesOff(v.today, b, p, on[p]);
+                int off = v.comesOff(v.today, b, p, table.on[p]);
                 if (off > 0) {
-                    on[p] -= off;
-                    way[b] = p;
-                    seat(v, b + 1, sum + off);
-                    on[p] += off;
+                    table.on[p] -= off;
+                    table.way[b] = p;
+                    seat(table, v, b + 1, sum + off);
+                    table.on[p] += off;
                 }
             }
         }
